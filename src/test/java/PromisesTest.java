@@ -618,6 +618,15 @@ public final class PromisesTest {
         due("no marks hold back the first", x.marks(0), -1000);
         x.mark(0, 1);
         due("6000 less what faded is more than 5500", x.marks(0), 600000250);
+        x = withLines(0);
+        x.rule(DOWN, 10000);
+        x.mark(0, 1);
+        x.change(0, false);
+        x.change(0, true);
+        x.tick(1);
+        due("9917 is below 10000, but that is not above 10000", x.marks(0), 1000000250);
+        x.rule(UP, 1);
+        due("10001, and 9918 is below 10000", x.marks(0), 1000010000);
     }
 
     private static void marksInConflict() {
@@ -767,6 +776,18 @@ public final class PromisesTest {
         x.flood(false);
         dueRow(x, 4, 4, 3, 2, 0);
         dueRow(x, 1, 1, 3, 2, 0);
+        x = new CalmLines();
+        x.way(0, 4, true);
+        x.way(0, 2, true);
+        x.way(2, 1, true);
+        x.way(1, 3, true);
+        x.way(4, 3, true);
+        x.flood(false);
+        dueRow(x, 3, 3, 4, 0);
+        x.way(0, 4, false);
+        x.flood(false);
+        dueRow(x, 3, 3, 1, 2, 0);
+        dueRow(x, 4, 4, 3, 1, 2, 0);
     }
 
     private static void floodOfWaysThatGo() {
