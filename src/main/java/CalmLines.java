@@ -594,8 +594,9 @@ public final class CalmLines {
 
         private void lookAt(int slot) {
             for (int i = firstOf(slot); i < endOf(slot); i++) {
-                if (roster.slotOf(i) == slot && isSeen(i) != seen[i]) {
-                    seen[i] = !seen[i];
+                boolean seenNow = up[i] && !shut[slot];
+                if (roster.slotOf(i) == slot && seenNow != seen[i]) {
+                    seen[i] = seenNow;
                     flips[i]++;
                 }
             }
