@@ -928,16 +928,16 @@ public final class BoundariesTest {
 
     private static void noneIsTold() {
         says("2 THE LOG", "if those have, too: none is told");
-        CalmLines x = withLines(PLAIN, PLAIN, PLAIN);
-        x.mark(0, FLUTTER);
-        x.mark(1, FLUTTER);
+        CalmLines x = withTwelve();
+        x.mark(10, FLUTTER);
+        x.mark(11, FLUTTER);
         put(x, HALF, 1, DOWN, 0, ECHO, 600, UP, 600);
         for (int i = 0; i < 4; i++) {
-            x.echo(0);
+            x.echo(10);
             x.tick(4);
         }
         for (int i = 0; i < 2; i++) {
-            downUp(x, 1);
+            downUp(x, 11);
         }
         due("two FLUTTER ones alone", x.marks(2), -999);
         x.mark(2, TRUE_LINE);

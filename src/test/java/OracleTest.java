@@ -71,6 +71,7 @@ public final class OracleTest {
         for (int seed = 0; seed < 600 && wrong < 5; seed++) {
             wrong += run(seed) ? 0 : 1;
         }
+        wrong += largestFlood() ? 0 : 1;
         System.out.println(wrong == 0 ? "all chance runs agree" : wrong + " chance runs differ");
         if (wrong != 0) {
             System.exit(1);
@@ -98,6 +99,29 @@ public final class OracleTest {
             }
         }
         return true;
+    }
+
+    /** The run with the most letters in one flood that a search found; steps 10 and 11 are floods. */
+    private static boolean largestFlood() {
+        int[][] pairs = {{0, 1}, {0, 2}, {0, 3}, {0, 4}, {1, 2}, {1, 3}, {1, 4}, {2, 3}, {2, 4}, {3, 4}};
+        int[] steps = {10, 4, 11, 10, 1, 1, 9, 1, 6, 1, 3, 10, 10, 0, 10, 10, 2, 3, 5, 2, 11, 0, 10, 3, 2, 8, 0, 4, 9,
+            10, 11, 3, 5, 5, 0, 3, 9, 0, 1, 7, 10, 4, 3, 4, 3, 3, 3, 2, 4, 2, 11};
+        CalmLines program = new CalmLines();
+        Plain oracle = new Plain();
+        for (int step : steps) {
+            boolean flood = step >= 10;
+            int a = flood ? step - 10 : pairs[step][0];
+            int b = flood ? 0 : pairs[step][1];
+            int there = !flood && oracle.ways[a][b] ? 0 : 1;
+            Call call = new Call(flood ? "flood" : "way", a, b, there, 0);
+            long got = call.on(program);
+            long want = call.on(oracle);
+            if (got != want || program.digest() != oracle.digest()) {
+                System.out.println("the largest flood: " + call + " answered " + got + ", due is " + want);
+                return false;
+            }
+        }
+        return oracle.count(5) > 224;
     }
 
     private static Call next(Random chance, Mood mood, Plain oracle) {
